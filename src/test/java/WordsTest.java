@@ -19,13 +19,16 @@ public final class WordsTest {
     }
 
     private static void oneRun(Random random, String name) {
-        LetterAlgebra x = Made.of("a b empty none");
+        Renewed x = new Renewed();
+        for (String call : List.of("a", "b", "empty", "none")) {
+            x.change(y -> Made.make(y, call));
+        }
         List<Set<String>> sets = new ArrayList<>(List.of(Set.of("a"), Set.of("b"), Set.of(""), Set.of()));
         for (int call = 0; call < 14; call++) {
             int i = random.nextInt(sets.size());
             int j = random.nextInt(sets.size());
             int kind = random.nextInt(5);
-            int answer = make(x, kind, i, j);
+            int answer = x.change(y -> make(y, kind, i, j));
             if (answer >= 0) {
                 Check.due(name + "number", answer, sets.size());
                 sets.add(made(kind, sets.get(i), sets.get(j)));
@@ -97,16 +100,16 @@ public final class WordsTest {
         return result;
     }
 
-    private static void compare(LetterAlgebra x, int i, Set<String> set, String name) {
+    private static void compare(Renewed x, int i, Set<String> set, String name) {
         for (String word : WORDS) {
-            Check.due(name + "has '" + word + "'", Made.has(x, i, word), set.contains(word));
+            Check.due(name + "has '" + word + "'", Made.has(x.ask(), i, word), set.contains(word));
         }
     }
 
     /** Multiplies every short word out letter by letter, and looks where its element first was met. */
-    private static void leastWords(LetterAlgebra x, int i, String name) {
-        int n = x.study(i);
-        Check.due(name + "elements", x.elements(), n < 0 ? -1 : n);
+    private static void leastWords(Renewed x, int i, String name) {
+        int n = x.change(y -> y.study(i));
+        Check.due(name + "elements", x.ask().elements(), n < 0 ? -1 : n);
         if (n < 0) {
             return;
         }
@@ -116,27 +119,27 @@ public final class WordsTest {
         for (String word : WORDS) {
             int element = 0;
             for (int k = 0; k < word.length(); k++) {
-                element = x.product(element, word.charAt(k) == 'a' ? a : b);
+                element = x.ask().product(element, word.charAt(k) == 'a' ? a : b);
             }
             if (first[element] == 0) {
                 first[element] = Made.number(word);
-                Check.due(name + "word " + element, x.word(element), first[element]);
+                Check.due(name + "word " + element, x.ask().word(element), first[element]);
             }
         }
     }
 
     /** The element of a letter, by what the letter does to the states. */
-    private static int elementOf(LetterAlgebra x, int i, String letter) {
+    private static int elementOf(Renewed x, int i, String letter) {
         int c = letter.charAt(0) - 'a';
-        for (int k = 0; k < x.elements(); k++) {
-            String word = Long.toBinaryString(x.word(k)).substring(1);
+        for (int k = 0; k < x.ask().elements(); k++) {
+            String word = Long.toBinaryString(x.ask().word(k)).substring(1);
             boolean alike = true;
-            for (int q = 0; q < x.states(i); q++) {
+            for (int q = 0; q < x.ask().states(i); q++) {
                 int state = q;
                 for (int l = 0; l < word.length(); l++) {
-                    state = x.next(i, state, word.charAt(l) - '0');
+                    state = x.ask().next(i, state, word.charAt(l) - '0');
                 }
-                alike &= state == x.next(i, q, c);
+                alike &= state == x.ask().next(i, q, c);
             }
             if (alike) {
                 return k;
