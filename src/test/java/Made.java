@@ -18,14 +18,14 @@ final class Made {
     }
 
     static int make(LetterAlgebra x, String call) {
-        String[] parts = call.split("[(),]");
-        int i = parts.length > 1 ? Integer.parseInt(parts[1]) : 0;
-        int j = parts.length > 2 ? Integer.parseInt(parts[2]) : 0;
-        switch (parts[0]) {
+        int i = argument(call, 0);
+        int j = argument(call, 1);
+        switch (name(call)) {
             case "a": return x.basic(0);
             case "b": return x.basic(1);
             case "empty": return x.basic(2);
             case "none": return x.basic(3);
+            case "basic": return x.basic(i);
             case "unite": return x.unite(i, j);
             case "meet": return x.meet(i, j);
             case "chain": return x.chain(i, j);
@@ -33,6 +33,33 @@ final class Made {
             case "invert": return x.invert(i);
             default: throw new IllegalArgumentException(call);
         }
+    }
+
+    static int make(Model model, String call) {
+        int i = argument(call, 0);
+        int j = argument(call, 1);
+        switch (name(call)) {
+            case "a": return model.basic(0);
+            case "b": return model.basic(1);
+            case "empty": return model.basic(2);
+            case "none": return model.basic(3);
+            case "basic": return model.basic(i);
+            case "unite": return model.unite(i, j);
+            case "meet": return model.meet(i, j);
+            case "chain": return model.chain(i, j);
+            case "star": return model.star(i);
+            case "invert": return model.invert(i);
+            default: throw new IllegalArgumentException(call);
+        }
+    }
+
+    private static String name(String call) {
+        return call.split("[(),]")[0];
+    }
+
+    private static int argument(String call, int place) {
+        String[] parts = call.split("[(),]");
+        return place + 1 < parts.length ? Integer.parseInt(parts[place + 1]) : 0;
     }
 
     /** The word as the number that contains() reads: its first letter is the lowest bit. */

@@ -34,9 +34,20 @@ public final class ModelTest {
         return random.nextInt(12) == 0 ? random.nextInt(size + 4) - 2 : random.nextInt(Math.max(size, 1));
     }
 
+    /** The one with the most states of three, else nearly all languages would be small ones. */
+    private static int largeOne(Random random, Model model) {
+        int best = index(random, model.count());
+        for (int more = 0; more < 2; more++) {
+            int other = index(random, model.count());
+            best = model.states(other) > model.states(best) ? other : best;
+        }
+        return best;
+    }
+
     private static void make(Renewed x, Model model, Random random, String name) {
-        int i = index(random, model.count());
-        int j = index(random, model.count());
+        boolean isLarge = random.nextBoolean();
+        int i = isLarge ? largeOne(random, model) : index(random, model.count());
+        int j = isLarge ? largeOne(random, model) : index(random, model.count());
         int kind = random.nextInt(6) - (random.nextInt(9) == 0 ? 1 : 0);
         switch (random.nextInt(12)) {
             case 0: Check.due(name + "basic " + kind, x.change(y -> y.basic(kind)), model.basic(kind)); break;
@@ -106,7 +117,7 @@ public final class ModelTest {
         Check.due(name + "study " + i, x.change(y -> y.study(i)), model.study(i));
     }
 
-    private static void automaton(Renewed x, Model model, int i, String name) {
+    static void automaton(Renewed x, Model model, int i, String name) {
         Check.due(name + "states", x.ask().states(i), model.states(i));
         for (int q = -1; q <= 6; q++) {
             Check.due(name + "accepts " + q, x.ask().accepts(i, q), model.accepts(i, q));
@@ -116,7 +127,7 @@ public final class ModelTest {
         }
     }
 
-    private static void algebra(Renewed x, Model model, String name) {
+    static void algebra(Renewed x, Model model, String name) {
         int n = model.elements();
         Check.due(name + "elements", x.ask().elements(), n);
         for (int j = -1; j <= n; j++) {
